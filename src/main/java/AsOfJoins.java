@@ -137,7 +137,7 @@ public final class AsOfJoins {
         if (!isTable(table) || !isKey(key) || !isTime(time)) {
             return BAD;
         }
-        int line = lineAsOf(table, key, time);
+        int line = versions.lineAsOf(placeOf(table, key), time - rules[SIDE]);
         return line < 0 ? NONE : versions.get(line, Versions.VALUE);
     }
 
@@ -232,14 +232,9 @@ public final class AsOfJoins {
         return lowest;
     }
 
-    private int lineAsOf(int table, int key, int time) {
-        int line = versions.lineUpTo(placeOf(table, key), time - rules[SIDE]);
-        return versions.get(line, Versions.VALUE) == GONE ? -1 : line;
-    }
-
     private void findJoin(int key, int time) {
         for (int t = 0; t < MOST_TABLES; t++) {
-            int line = t < tables ? lineAsOf(t, key, time) : -1;
+            int line = versions.lineAsOf(placeOf(t, key), time - rules[SIDE]);
             join[2 * t] = line < 0 ? NONE : versions.get(line, Versions.FROM);
             join[2 * t + 1] = line < 0 ? NONE : versions.get(line, Versions.VALUE);
         }
@@ -272,7 +267,7 @@ public final class AsOfJoins {
         boolean given = isGivenByJoin();
         rows.setJoin(line, join, given);
         if (given) {
-            outs.addGive(rows, line);
+            outs.add(Outs.GIVE, rows, line);
         }
     }
 
@@ -291,7 +286,7 @@ public final class AsOfJoins {
             return;
         }
         if (rows.wasGiven(line)) {
-            outs.addTake(rows, line);
+            outs.add(Outs.TAKE, rows, line);
         }
         takeJoin(line);
     }
@@ -336,19 +331,19 @@ public final class AsOfJoins {
             return lines;
         }
 
-        private boolean holds(int line, int column) {
-            return line >= 0 && line < lines && column >= 0 && column < width;
-        }
-
         /** NONE beyond the lines, so that a neighbour may be looked at without asking first. */
         int get(int line, int column) {
-            return holds(line, column) ? cells[line * width + column] : NONE;
+            if (line < 0 || line >= lines || column < 0 || column >= width) {
+                return NONE;
+            }
+            return cells[line * width + column];
         }
 
         void set(int line, int column, int number) {
-            if (holds(line, column)) {
-                cells[line * width + column] = number;
+            if (line < 0 || line >= lines || column < 0 || column >= width) {
+                return;
             }
+            cells[line * width + column] = number;
         }
 
         /** Makes room for a line; its cells are left for the caller to set. */
@@ -405,39 +400,35 @@ public final class AsOfJoins {
             return linesUpTo(place, LAST_TIME) - startOf(place);
         }
 
-        /** The line with the greatest FROM of the place that is not above from, or -1. */
-        int lineUpTo(int place, int from) {
+        /** The line with the greatest FROM of the place that is not above from; -1 if there is none, or it is GONE. */
+        int lineAsOf(int place, int from) {
             int line = linesUpTo(place, from) - 1;
-            return sheet.get(line, PLACE) == place ? line : -1;
+            return sheet.get(line, PLACE) == place && sheet.get(line, VALUE) != GONE ? line : -1;
         }
 
         void put(int place, int from, int value) {
-            int line = lineUpTo(place, from);
-            if (sheet.get(line, FROM) == from) {
-                sheet.set(line, VALUE, value);
-                return;
-            }
             int at = linesUpTo(place, from);
-            if (sheet.open(at)) {
+            if (sheet.get(at - 1, PLACE) == place && sheet.get(at - 1, FROM) == from) {
+                sheet.set(at - 1, VALUE, value);
+            } else if (sheet.open(at)) {
                 sheet.set(at, FROM, from);
                 sheet.set(at, VALUE, value);
                 sheet.set(at, PLACE, place);
             }
         }
 
+        /** How many lines are of lower places, or of the place with a FROM that is not above from. */
         private int linesUpTo(int place, int from) {
             int n = 0;
             for (int step = FIRST_STEP; step > 0; step /= 2) {
-                if (n + step <= sheet.size() && !isBehind(n + step - 1, place, from)) {
+                int last = n + step - 1;
+                int other = sheet.get(last, PLACE);
+                boolean isBehind = other > place || (other == place && sheet.get(last, FROM) > from);
+                if (last < sheet.size() && !isBehind) {
                     n += step;
                 }
             }
             return n;
-        }
-
-        private boolean isBehind(int line, int place, int from) {
-            int other = sheet.get(line, PLACE);
-            return other > place || (other == place && sheet.get(line, FROM) > from);
         }
     }
 
@@ -480,6 +471,9 @@ public final class AsOfJoins {
         }
 
         void setJoin(int line, int[] join, boolean given) {
+            if (join == null) {
+                return;
+            }
             sheet.set(line, WAITS, 0);
             sheet.set(line, GIVEN, given ? 1 : 0);
             for (int c = 0; c < JOIN_WIDTH && c < join.length; c++) {
@@ -488,6 +482,9 @@ public final class AsOfJoins {
         }
 
         boolean hasJoin(int line, int[] join) {
+            if (join == null) {
+                return false;
+            }
             for (int c = 0; c < JOIN_WIDTH && c < join.length; c++) {
                 if (sheet.get(line, JOIN + c) != join[c]) {
                     return false;
@@ -529,7 +526,7 @@ public final class AsOfJoins {
     /** What went out by the latest call that was done, in the columns that out() tells, and how much in all. */
     private static final class Outs {
         static final int KIND = 0, NUMBER = 1, KEY = 2, TIME = 3, VALUE = 4, JOIN = 5;
-        private static final int TAKE = 0, GIVE = 1;
+        static final int TAKE = 0, GIVE = 1;
 
         /** At most a TAKE and a GIVE for each row that is there. */
         private final Sheet sheet = new Sheet(JOIN + JOIN_WIDTH, 2 * MOST_ROWS);
@@ -548,20 +545,15 @@ public final class AsOfJoins {
             sheet.clear();
         }
 
-        void addGive(Rows rows, int line) {
-            add(GIVE, rows, line);
-            gives++;
-        }
-
-        void addTake(Rows rows, int line) {
-            add(TAKE, rows, line);
-            takes++;
-        }
-
-        private void add(int kind, Rows rows, int line) {
+        void add(int kind, Rows rows, int line) {
             int at = sheet.size();
             if (rows == null || !sheet.open(at)) {
                 return;
+            }
+            if (kind == GIVE) {
+                gives++;
+            } else {
+                takes++;
             }
             sheet.set(at, KIND, kind);
             sheet.set(at, NUMBER, rows.get(line, Rows.NUMBER));
