@@ -1,8 +1,10 @@
 import java.util.ArrayList;
+import java.util.Arrays;
 import java.util.Comparator;
 import java.util.List;
 import java.util.Random;
 import java.util.TreeMap;
+import java.util.function.ToIntFunction;
 
 /**
  * Long runs of chosen calls, each answer held against that of a slow model that follows the
@@ -10,7 +12,11 @@ import java.util.TreeMap;
  */
 public final class ModelTests {
     private static final int BAD = -1, NONE = -2, FULL = -3, LATE = -4, TURN = -5;
-    private static final int CALLS = 512;
+    private static final int MOST_CALLS = 512;
+    private static final int LAST_TIME = 100_000;
+
+    /** Runs in small worlds are short, so there are more of them. */
+    private static final int SMALL_FOR_A_WIDE = 5;
 
     private static int wrong = 0;
     private static final int[] answersSeen = new int[6];
@@ -207,120 +213,186 @@ public final class ModelTests {
         }
     }
 
-    /** One run: the seed chooses the tables, the rules, how wide times and keys go, and which calls are frequent. */
-    private static final class Run {
-        final long seed;
-        final Random random;
-        final AsOfJoins x = new AsOfJoins();
-        final Model m = new Model();
-        final int width, keys, step, rowStep, rowShare, markShare;
-        int calls = 0;
+    /**
+     * How a run goes: from which time on and how wide times are spread, how many keys there are, how far marks
+     * go at a step, and which calls are frequent.
+     */
+    private static final class World {
+        int acts, low, width, keys, step, rowStep, keep, rowShare, markShare, looks;
 
-        Run(long seed) {
-            this.seed = seed;
-            random = new Random(seed);
-            width = new int[] {12, 60, 400, 3_000}[random.nextInt(4)];
-            keys = 1 + random.nextInt(random.nextBoolean() ? 2 : 16);
-            step = 1 + random.nextInt(Math.max(1, width / (random.nextBoolean() ? 4 : 30)));
+        /** Many versions and rows, over times that seldom meet. */
+        static World wide(Random random) {
+            World w = new World();
+            w.acts = MOST_CALLS - 72;
+            w.width = new int[] {12, 60, 400, 3_000}[random.nextInt(4)];
+            w.keys = 1 + random.nextInt(random.nextBoolean() ? 2 : 16);
+            w.step = 1 + random.nextInt(Math.max(1, w.width / (random.nextBoolean() ? 4 : 30)));
             // Slow row marks leave many joined rows to correct, quick ones let rows and versions go.
-            rowStep = random.nextBoolean() ? step : Math.max(1, step / 8);
-            rowShare = random.nextInt(60);
-            markShare = random.nextInt(5) == 0 ? random.nextInt(4) : 5 + random.nextInt(25);
+            w.rowStep = random.nextBoolean() ? w.step : Math.max(1, w.step / 8);
+            w.keep = random.nextInt(3) == 0 ? 0 : random.nextInt(Math.min(1000, w.width));
+            w.rowShare = random.nextInt(60);
+            w.markShare = random.nextInt(5) == 0 ? random.nextInt(4) : 5 + random.nextInt(25);
+            w.looks = 16;
+            return w;
         }
 
-        void same(String call, int got, int want) {
+        /** Six times at one end of the TIMES, so that FROMS, times of rows, marks and HORIZON meet all the time. */
+        static World small(Random random) {
+            World w = new World();
+            w.acts = 40;
+            w.low = random.nextBoolean() ? 0 : LAST_TIME - 6;
+            w.width = 8;
+            w.keys = 1 + random.nextInt(2);
+            w.step = 2;
+            w.rowStep = 1 + random.nextInt(2);
+            w.keep = random.nextInt(4);
+            w.rowShare = 20 + random.nextInt(30);
+            w.markShare = 10 + random.nextInt(20);
+            w.looks = 1;
+            return w;
+        }
+    }
+
+    /**
+     * A run on an object and on the model. The object is made anew by the same calls when its 512 calls are used
+     * up, so that all that is there may be looked at often.
+     */
+    private static final class Run {
+        final String name;
+        final Random random;
+        final World world;
+        final Model m = new Model();
+        final List<ToIntFunction<AsOfJoins>> done = new ArrayList<>();
+        AsOfJoins object = new AsOfJoins();
+        int calls = 0;
+
+        Run(String name, Random random, World world) {
+            this.name = name;
+            this.random = random;
+            this.world = world;
+        }
+
+        int call(ToIntFunction<AsOfJoins> call) {
+            if (calls == MOST_CALLS) {
+                object = new AsOfJoins();
+                for (ToIntFunction<AsOfJoins> one : done) one.applyAsInt(object);
+                calls = done.size();
+            }
             calls++;
+            return call.applyAsInt(object);
+        }
+
+        int does(ToIntFunction<AsOfJoins> call) {
+            int answer = call(call);
+            done.add(call);
+            return answer;
+        }
+
+        void same(String call, int got, int want, int... arguments) {
             if (want < 0) answersSeen[-want]++;
             if (got != want && wrong++ < 20) {
-                System.out.println("seed " + seed + ", call " + calls + ": " + call + " answered " + got + ", due is " + want);
+                System.out.println(name + ", behind " + done.size() + " calls: " + call + Arrays.toString(arguments)
+                    + " answered " + got + ", due is " + want);
             }
         }
 
+        void table() { same("table", does(AsOfJoins::table), m.table()); }
+        void rule(int what, int v) { same("rule", does(x -> x.rule(what, v)), m.rule(what, v), what, v); }
+        void change(int t, int key, int from, int value) {
+            same("change", does(x -> x.change(t, key, from, value)), m.change(t, key, from, value), t, key, from, value);
+        }
+        void row(int key, int time, int value) {
+            same("row", does(x -> x.row(key, time, value)), m.row(key, time, value), key, time, value);
+        }
+        void mark(int t, int time) { same("mark", does(x -> x.mark(t, time)), m.mark(t, time), t, time); }
+
+        void out(int i, int what) { same("out", call(x -> x.out(i, what)), m.out(i, what), i, what); }
+        void asOf(int t, int key, int time) {
+            same("asOf", call(x -> x.asOf(t, key, time)), m.asOf(t, key, time), t, key, time);
+        }
+        void version(int t, int key, int i, int what) {
+            same("version", call(x -> x.version(t, key, i, what)), m.version(t, key, i, what), t, key, i, what);
+        }
+        void there(int i, int what) { same("there", call(x -> x.there(i, what)), m.there(i, what), i, what); }
+        void count(int what) { same("count", call(x -> x.count(what)), m.count(what), what); }
+
         /** Near the marks, so that edges come often; now and then anything. */
         int time() {
+            if (random.nextInt(60) == 0) return wild();
             int near = random.nextInt(4);
             int base = near == 0 ? m.rowMark : near == 1 ? m.horizon() : near == 2 ? m.marks[random.nextInt(3)] : 0;
-            if (random.nextInt(60) == 0) return wild();
-            return base + random.nextInt(near == 3 ? 2 * width : width) - (near == 3 ? 0 : width / 4);
+            if (near == 3 || base < world.low) return world.low + random.nextInt(2 * world.width);
+            return base + random.nextInt(world.width) - world.width / 4;
         }
 
         int wild() {
-            int[] all = {Integer.MIN_VALUE, -2, -1, 0, 1, 15, 16, 100_000, 100_001, Integer.MAX_VALUE};
+            int[] all = {Integer.MIN_VALUE, -2, -1, 0, 1, 15, 16, LAST_TIME, LAST_TIME + 1, Integer.MAX_VALUE};
             return all[random.nextInt(all.length)];
         }
 
-        int key() { return random.nextInt(80) == 0 ? wild() : random.nextInt(keys); }
+        int key() { return random.nextInt(80) == 0 ? wild() : random.nextInt(world.keys); }
         int tableNumber() { return random.nextInt(40) == 0 ? wild() : random.nextInt(Math.max(1, m.tables.size())); }
         int value(int low) { return random.nextInt(60) == 0 ? wild() * 1000 : low + random.nextInt(5); }
 
         void setUp() {
             int tables = random.nextInt(30) == 0 ? 0 : 1 + random.nextInt(3);
-            for (int t = 0; t < tables; t++) same("table()", x.table(), m.table());
+            for (int t = 0; t < tables; t++) table();
             for (int what = 0; what < 3; what++) rule(what, random.nextInt(2));
-            rule(3, random.nextInt(3) == 0 ? 0 : random.nextInt(Math.min(1000, width)));
+            rule(3, world.keep);
         }
-
-        void rule(int what, int v) { same("rule(" + what + ", " + v + ")", x.rule(what, v), m.rule(what, v)); }
 
         void act() {
             int pick = random.nextInt(100);
-            if (pick < markShare) {
-                int t = random.nextInt(m.tables.size() + 1) - 1;
-                if (random.nextInt(30) == 0) t = wild();
-                int was = t == -1 ? m.rowMark : m.isTable(t) ? m.marks[t] : 0;
-                int time = random.nextInt(20) == 0 ? wild() : was + random.nextInt((t == -1 ? rowStep : step) + 1);
-                // A jump to the end would leave nothing to look at, so few runs make it.
-                if (time == 100_000 && seed % 10 != 0) time = was;
-                same("mark(" + t + ", " + time + ")", x.mark(t, time), m.mark(t, time));
-            } else if (pick < markShare + rowShare) {
-                int key = key(), time = time(), value = value(0);
-                same("row(" + key + ", " + time + ", " + value + ")", x.row(key, time, value), m.row(key, time, value));
+            if (pick < world.markShare) {
+                raiseAMark();
+            } else if (pick < world.markShare + world.rowShare) {
+                row(key(), time(), value(0));
             } else if (pick < 97) {
-                int t = tableNumber(), key = key(), from = time(), value = value(-1);
-                same("change(" + t + ", " + key + ", " + from + ", " + value + ")", x.change(t, key, from, value), m.change(t, key, from, value));
+                change(tableNumber(), key(), time(), value(-1));
             } else if (pick < 98) {
-                same("table()", x.table(), m.table());
+                table();
             } else {
                 rule(random.nextInt(5), random.nextInt(3));
             }
         }
 
-        void look() {
-            int i = random.nextInt(6) - 1, what = random.nextInt(12);
-            same("out(" + i + ", " + what + ")", x.out(i, what), m.out(i, what));
-            int t = tableNumber(), key = key(), time = time();
-            same("asOf(" + t + ", " + key + ", " + time + ")", x.asOf(t, key, time), m.asOf(t, key, time));
-            what = random.nextInt(20) - 1;
-            same("count(" + what + ")", x.count(what), m.count(what));
+        void raiseAMark() {
+            int t = random.nextInt(30) == 0 ? wild() : random.nextInt(m.tables.size() + 1) - 1;
+            int was = Math.max(world.low, t == -1 ? m.rowMark : m.isTable(t) ? m.marks[t] : 0);
+            int time = random.nextInt(20) == 0 ? wild() : was + random.nextInt((t == -1 ? world.rowStep : world.step) + 1);
+            // A jump to the end would leave nothing to look at, so few runs make it.
+            mark(t, time == LAST_TIME && random.nextInt(10) != 0 ? was : time);
         }
 
-        /** All that can be asked: an answer asked for never changes anything, so the calls are free. */
+        void look() {
+            out(random.nextInt(6) - 1, random.nextInt(12));
+            asOf(tableNumber(), key(), time());
+            count(random.nextInt(20) - 1);
+        }
+
         void lookAtAll() {
-            for (int what = -1; what <= 18; what++) same("count(" + what + ")", x.count(what), m.count(what));
-            for (int i = -1; i <= m.out.size(); i++) {
-                for (int what = -1; what <= 11; what++) same("out(" + i + ", " + what + ")", x.out(i, what), m.out(i, what));
-            }
-            for (int i = -1; i <= m.rows.size(); i++) {
-                for (int what = -1; what <= 6; what++) same("there(" + i + ", " + what + ")", x.there(i, what), m.there(i, what));
-            }
-            for (int t = 0; t < m.tables.size(); t++) {
-                for (int key = 0; key < keys && key < 16; key++) {
-                    for (int i = -1; i <= m.tables.get(t).get(key).size(); i++) {
-                        for (int what = 0; what < 2; what++) {
-                            same("version(" + t + ", " + key + ", " + i + ", " + what + ")", x.version(t, key, i, what), m.version(t, key, i, what));
-                        }
-                    }
-                }
-            }
+            for (int what = -1; what <= 18; what++) count(what);
+            for (int i = -1; i <= m.out.size(); i++) for (int what = -1; what <= 11; what++) out(i, what);
+            for (int i = -1; i <= m.rows.size(); i++) for (int what = -1; what <= 6; what++) there(i, what);
+            for (int t = 0; t < m.tables.size(); t++) for (int key = 0; key < world.keys; key++) lookAtVersions(t, key);
             mostOut = Math.max(mostOut, m.out.size());
+        }
+
+        void lookAtVersions(int t, int key) {
+            for (int i = -1; i <= m.tables.get(t).get(key).size(); i++) {
+                for (int what = 0; what < 2; what++) version(t, key, i, what);
+            }
+            if (world.width <= 8) {
+                for (int time = world.low; time <= world.low + 8; time++) asOf(t, key, time);
+            }
         }
 
         void go() {
             setUp();
-            for (int n = 0; n < CALLS - 8; n++) {
+            while (done.size() < world.acts) {
                 act();
                 look();
-                if (n % 16 == 0 || m.out.size() > mostOut) lookAtAll();
+                if (done.size() % world.looks == 0 || m.out.size() > mostOut) lookAtAll();
             }
             lookAtAll();
             versionsGone += m.versionsWent;
@@ -329,8 +401,13 @@ public final class ModelTests {
 
     public static void main(String[] args) {
         int runs = args.length > 0 ? Integer.parseInt(args[0]) : 400;
-        for (long seed = 1; seed <= runs; seed++) {
-            new Run(seed).go();
+        for (int seed = 1; seed <= runs; seed++) {
+            Random random = new Random(seed);
+            new Run("wide " + seed, random, World.wide(random)).go();
+        }
+        for (int seed = 1; seed <= SMALL_FOR_A_WIDE * runs; seed++) {
+            Random random = new Random(seed);
+            new Run("small " + seed, random, World.small(random)).go();
         }
         System.out.println("answers seen: BAD " + answersSeen[1] + ", NONE " + answersSeen[2] + ", FULL " + answersSeen[3]
             + ", LATE " + answersSeen[4] + ", TURN " + answersSeen[5] + "; most that went out at once " + mostOut

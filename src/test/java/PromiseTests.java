@@ -603,8 +603,37 @@ public final class PromiseTests {
         }
     }
 
+    /** The answers that README.md tells at its example. */
+    private static void exampleOfTheReadme() {
+        AsOfJoins joins = new AsOfJoins();
+        int prices = joins.table();
+        due("README: table", prices, 0);
+        due("README: LATES", joins.rule(1, 1), 0);
+        due("README: KEEP", joins.rule(3, 50), 0);
+
+        due("README: change", joins.change(prices, 1, 10, 5), 1);
+        due("README: row", joins.row(1, 12, 700), 0);
+        due("README: mark", joins.mark(prices, 40), 0);
+        due("README: went out", joins.out(-1, 0), 1);
+        due("README: a GIVE", joins.out(0, 0), 1);
+        due("README: its value", joins.out(0, 6), 5);
+
+        due("README: late change", joins.change(prices, 1, 11, 6), 2);
+        due("README: went out", joins.out(-1, 0), 2);
+        due("README: a TAKE", joins.out(0, 0), 0);
+        due("README: what was given", joins.out(0, 6), 5);
+        due("README: what is given", joins.out(1, 6), 6);
+
+        due("README: mark of rows", joins.mark(-1, 70), 0);
+        due("README: rows that went", joins.count(7), 1);
+        due("README: versions that went", joins.count(8), 1);
+        due("README: asOf", joins.asOf(prices, 1, 21), 6);
+        due("README: change that is late", joins.change(prices, 1, 20, 7), LATE);
+    }
+
     public static void main(String[] args) {
         constants();
+        exampleOfTheReadme();
         newObject();
         tables();
         rules();
